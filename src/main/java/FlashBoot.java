@@ -19,6 +19,8 @@ public final class FlashBoot {
     private static final int TOP_SEQUENCE = 200;
     private static final int BLOCK = 16;
 
+    private static final int LOWER_PAGE = 0;
+    private static final int UPPER_PAGE = 7;
     private static final int STAGE_PAGE = 14;
     private static final int MANIFEST_PAGE = 20;
     private static final int MAP_PAGE = 21;
@@ -27,19 +29,18 @@ public final class FlashBoot {
     private static final int MAP = MAP_PAGE * PAGE;
     private static final int COUNTER = COUNTER_PAGE * PAGE;
 
-    private final int[] keyBytes = new int[8];
+    private final int[] keyBytes;
     private final int vendorByte;
     private final Flash flash = new Flash();
     private final Tape tape = new Tape();
-    private final Slot lower = new Slot(flash, 0);
-    private final Slot upper = new Slot(flash, 7);
+    private final Slot lower = new Slot(LOWER_PAGE);
+    private final Slot upper = new Slot(UPPER_PAGE);
     private final Manifest order = new Manifest();
-    private final Patch patch = new Patch(flash);
+    private final Patch patch = new Patch();
     private int runs = NONE;
 
     public FlashBoot(int key, int more, int vendor) {
-        putWord(keyBytes, 0, key);
-        putWord(keyBytes, 4, more);
+        keyBytes = rowOfWords(key, more);
         vendorByte = vendor & 255;
     }
 
@@ -58,13 +59,13 @@ public final class FlashBoot {
             return BAD;
         }
         runs = NONE;
-        lower.eraseImage();
-        lower.eraseHeader();
+        lower.eraseImage(flash);
+        lower.eraseHeader(flash);
         flash.erase(COUNTER_PAGE);
-        lower.programImage(tape.bytes, tape.length);
-        lower.programName(tape.length, sequence, digest(0, tape.bytes, tape.length));
-        lower.programConfirmed();
-        lower.programWhole();
+        lower.programImage(flash, tape.bytes, tape.length);
+        lower.programName(flash, tape.length, sequence, digest(0, tape.bytes, tape.length));
+        lower.programConfirmed(flash);
+        lower.programWhole(flash);
         tape.length = 0;
         return unlessTorn(1);
     }
@@ -124,7 +125,7 @@ public final class FlashBoot {
             runs = slotConfirmed();
             return runs;
         }
-        slot(runs).useTrial();
+        slot(runs).useTrial(flash);
         return unlessTorn(runs);
     }
 
@@ -136,11 +137,11 @@ public final class FlashBoot {
             return NONE;
         }
         Slot slot = slot(runs);
-        if (slot.isConfirmed()) {
+        if (slot.isConfirmed(flash)) {
             return 0;
         }
-        slot.programConfirmed();
-        raiseCounter(slot.sequence());
+        slot.programConfirmed(flash);
+        raiseCounter(slot.sequence(flash));
         return unlessTorn(1);
     }
 
@@ -176,7 +177,7 @@ public final class FlashBoot {
         if (slot != 0 && slot != 1) {
             return BAD;
         }
-        return slot(slot).isGood(counter()) ? 1 : 0;
+        return isGood(slot(slot)) ? 1 : 0;
     }
 
     private Slot slot(int number) {
@@ -225,7 +226,7 @@ public final class FlashBoot {
     }
 
     private boolean isOld(int sequence) {
-        return sequence <= counter() || runs == NONE || slot(runs).sequence() >= sequence;
+        return sequence <= counter() || runs == NONE || slot(runs).sequence(flash) >= sequence;
     }
 
     /** The map goes first, so that a torn call never leaves blocks marked that are another payload's. */
@@ -277,40 +278,42 @@ public final class FlashBoot {
             return false;
         }
         boolean isBased = order.baseDigest() != 0;
-        if (isBased && order.baseDigest() != running.digest()) {
+        if (isBased && order.baseDigest() != running.digest(flash)) {
             return false;
         }
-        int baseLength = isBased ? running.length() : 0;
-        return patch.unfold(order.payloadLength(), running.start, baseLength)
+        int baseLength = isBased ? running.length(flash) : 0;
+        return patch.unfold(flash, order.payloadLength(), running.start, baseLength)
             && patch.made == order.imageLength()
             && digest(0, patch.image, patch.made) == order.imageDigest();
     }
 
     private void programUpdate(Slot slot) {
-        slot.eraseHeader();
-        slot.eraseImage();
-        slot.programImage(patch.image, patch.made);
-        slot.programName(order.imageLength(), order.sequence(), order.imageDigest());
-        slot.programTrials();
-        slot.programWhole();
+        slot.eraseHeader(flash);
+        slot.eraseImage(flash);
+        slot.programImage(flash, patch.image, patch.made);
+        slot.programName(flash, order.imageLength(), order.sequence(), order.imageDigest());
+        slot.programTrials(flash);
+        slot.programWhole(flash);
         flash.erase(MANIFEST_PAGE);
     }
 
     // The choice at a boot, and the counter
 
     private int slotOnTrial() {
-        int least = counter();
-        return later(lower.isGood(least) && lower.isOnTrial(), upper.isGood(least) && upper.isOnTrial());
+        return later(isGood(lower) && lower.isOnTrial(flash), isGood(upper) && upper.isOnTrial(flash));
     }
 
     private int slotConfirmed() {
-        int least = counter();
-        return later(lower.isGood(least) && lower.isConfirmed(), upper.isGood(least) && upper.isConfirmed());
+        return later(isGood(lower) && lower.isConfirmed(flash), isGood(upper) && upper.isConfirmed(flash));
+    }
+
+    private boolean isGood(Slot slot) {
+        return slot.isGood(flash, counter());
     }
 
     /** Of the slots that can run the one with the greater sequence. */
     private int later(boolean lowerCan, boolean upperCan) {
-        if (upperCan && (!lowerCan || upper.sequence() > lower.sequence())) {
+        if (upperCan && (!lowerCan || upper.sequence(flash) > lower.sequence(flash))) {
             return 1;
         }
         return lowerCan ? 0 : NONE;
@@ -351,10 +354,13 @@ public final class FlashBoot {
         return word >>> (24 - 8 * place) & 255;
     }
 
-    private static void putWord(int[] row, int from, int word) {
-        for (int i = 0; i < 4 && from + i < row.length; i++) {
-            row[from + i] = byteOfWord(word, i);
+    private static int[] rowOfWords(int first, int second) {
+        int[] row = new int[8];
+        for (int i = 0; i < 4; i++) {
+            row[i] = byteOfWord(first, i);
+            row[i + 4] = byteOfWord(second, i);
         }
+        return row;
     }
 
     /** The flash, its power and its crash. Without power an act does nothing and is none. */
@@ -476,81 +482,79 @@ public final class FlashBoot {
         private static final int IMAGE_PAGES = 6;
         private static final int FOUR_TRIALS = 15;
 
-        private final Flash flash;
         private final int firstPage;
         private final int start;
         private final int header;
 
-        Slot(Flash flash, int firstPage) {
-            this.flash = flash;
+        Slot(int firstPage) {
             this.firstPage = firstPage;
             start = firstPage * PAGE;
             header = (firstPage + IMAGE_PAGES) * PAGE;
         }
 
-        int length() {
+        int length(Flash flash) {
             return flash.at(header);
         }
 
-        int sequence() {
+        int sequence(Flash flash) {
             return flash.at(header + 1);
         }
 
-        int digest() {
+        int digest(Flash flash) {
             return flash.word(header + 2);
         }
 
-        boolean isConfirmed() {
+        boolean isConfirmed(Flash flash) {
             return flash.at(header + 7) == 0;
         }
 
         /** Whether it may still be booted on trial. */
-        boolean isOnTrial() {
-            return !isConfirmed() && flash.at(header + 6) != 0;
+        boolean isOnTrial(Flash flash) {
+            return !isConfirmed(flash) && flash.at(header + 6) != 0;
         }
 
-        boolean isWhole() {
+        boolean isWhole(Flash flash) {
             return flash.at(header + 8) == 0;
         }
 
-        boolean isGood(int least) {
-            return isWhole() && isLength(length()) && sequence() >= least
-                && flash.digestOf(start, length()) == digest();
+        boolean isGood(Flash flash, int least) {
+            return isWhole(flash) && isLength(length(flash)) && sequence(flash) >= least
+                && flash.digestOf(start, length(flash)) == digest(flash);
         }
 
-        void eraseHeader() {
+        void eraseHeader(Flash flash) {
             flash.erase(firstPage + IMAGE_PAGES);
         }
 
-        void eraseImage() {
+        void eraseImage(Flash flash) {
             for (int i = 0; i < IMAGE_PAGES; i++) {
                 flash.erase(firstPage + i);
             }
         }
 
-        void programImage(int[] image, int length) {
+        void programImage(Flash flash, int[] image, int length) {
             flash.programRow(start, image, length);
         }
 
-        void programName(int length, int sequence, int digest) {
+        void programName(Flash flash, int length, int sequence, int digest) {
             flash.program(header, length);
             flash.program(header + 1, sequence);
             flash.programWord(header + 2, digest);
         }
 
-        void programTrials() {
+        void programTrials(Flash flash) {
             flash.program(header + 6, FOUR_TRIALS);
         }
 
-        void useTrial() {
+        void useTrial(Flash flash) {
             flash.programLowestBit(header + 6);
         }
 
-        void programConfirmed() {
+        void programConfirmed(Flash flash) {
             flash.program(header + 7, 0);
         }
 
-        void programWhole() {
+        void programWhole(Flash flash) {
             flash.program(header + 8, 0);
         }
     }
@@ -631,16 +635,11 @@ public final class FlashBoot {
     private static final class Patch {
         private static final int FROM_BASE = 128;
 
-        private final Flash flash;
         private final int[] image = new int[MOST];
         private int made = 0;
 
-        Patch(Flash flash) {
-            this.flash = flash;
-        }
-
         /** Whether all parts are whole and the base has what they want; made is the image's length then. */
-        boolean unfold(int payloadLength, int base, int baseLength) {
+        boolean unfold(Flash flash, int payloadLength, int base, int baseLength) {
             made = 0;
             int at = 0;
             while (at < payloadLength) {
@@ -649,13 +648,13 @@ public final class FlashBoot {
                 if (kind < FROM_BASE) {
                     int count = kind + 1;
                     at += 1 + count;
-                    if (at > payloadLength || !take(inner, count)) {
+                    if (at > payloadLength || !take(flash, inner, count)) {
                         return false;
                     }
                 } else {
                     int count = kind - FROM_BASE + 1;
                     at += 2;
-                    if (at > payloadLength || !takeBase(base, baseLength, flash.at(inner), count)) {
+                    if (at > payloadLength || !takeBase(flash, base, baseLength, flash.at(inner), count)) {
                         return false;
                     }
                 }
@@ -663,12 +662,12 @@ public final class FlashBoot {
             return true;
         }
 
-        private boolean takeBase(int base, int baseLength, int place, int count) {
-            return place + count <= baseLength && take(base + place, count);
+        private boolean takeBase(Flash flash, int base, int baseLength, int place, int count) {
+            return place + count <= baseLength && take(flash, base + place, count);
         }
 
         /** False when there is no room: no image is as long. */
-        private boolean take(int from, int count) {
+        private boolean take(Flash flash, int from, int count) {
             if (made + count > MOST) {
                 return false;
             }

@@ -9,6 +9,7 @@ public final class Promise04ManifestTest {
         sequences();
         orderOfAnswers();
         sameAgain();
+        sameAgainBehindATearing();
         anotherOne();
         tape();
         withoutPower();
@@ -97,6 +98,10 @@ public final class Promise04ManifestTest {
         Device idle = new Device().type(Device.FIRST);
         idle.x.factory(1);
         Due.is("no image runs", FlashBoot.OLD, idle.manifest(Update.whole(2, NEXT)));
+        Device both = Device.running(1);
+        both.install(Update.whole(2, NEXT));
+        both.type(Device.FIRST).x.factory(1);
+        Due.is("no image runs, though two are good", FlashBoot.OLD, both.manifest(Update.whole(5, NEXT)));
         Due.is("no image was ever", FlashBoot.OLD, new Device().manifest(Update.whole(2, NEXT)));
 
         Device trial = Device.running(10);
@@ -136,6 +141,23 @@ public final class Promise04ManifestTest {
         Due.is("install of what stayed staged", 1, device.x.install());
         Due.is("the same behind install", 0, device.manifest(update));
         Due.is("LACKS, as the map is new", FlashBoot.LACKS, device.x.install());
+    }
+
+    /** Page 20 is torn when another manifest comes: just its first bytes are erased. */
+    private static void sameAgainBehindATearing() {
+        Update update = Update.whole(2, NEXT);
+        for (int erased = 0; erased < 32; erased++) {
+            Device device = Device.running(1).stage(update);
+            device.x.crash(1, erased);
+            Due.is("torn", FlashBoot.OFF, device.manifest(Update.whole(3, NEXT)));
+            device.x.boot();
+            String what = erased + " bytes of page 20 erased";
+            Due.is(what + ": block", erased > 0 ? FlashBoot.BAD : 1, device.block(update, 0));
+            device.manifest(Update.whole(0, NEXT));
+            device.x.manifest();
+            Due.is(what + ": install", erased > 0 ? FlashBoot.NONE : FlashBoot.LACKS, device.x.install());
+            Due.is(what + ": the same again", erased > 0 ? 0 : 1, device.manifest(update));
+        }
     }
 
     private static void anotherOne() {

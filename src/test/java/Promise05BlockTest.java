@@ -70,6 +70,7 @@ public final class Promise05BlockTest {
                 Due.is("payload of " + length + ": block(" + k + ")", FlashBoot.BAD, device.x.block(k));
             }
             Due.is("payload of " + length + ": last block", 1, device.x.block(update.blocks() - 1));
+            Due.is("no tape for no block", FlashBoot.BAD, device.x.block(update.blocks()));
         }
     }
 
