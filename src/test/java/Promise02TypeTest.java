@@ -60,6 +60,13 @@ public final class Promise02TypeTest {
         device.x.factory(1);
         Due.is("type without power", 2, device.x.type(0x2122, 2));
         Due.is("wrong type without power", FlashBoot.BAD, device.x.type(0x2122, 9));
+        Device full = new Device();
+        full.x.crash(0, 0);
+        full.type(1).x.factory(1);
+        full.type(Bytes.image(191, 3));
+        Due.is("type over the end without power", FlashBoot.FULL, full.x.type(0, 2));
+        Due.is("type to the end without power", 192, full.x.type(0, 1));
+        Due.is("type behind the end without power", FlashBoot.FULL, full.x.type(0, 1));
         device.x.boot();
         Due.is("factory of what was typed without power", 1, device.x.factory(1));
         device.areBytes("what was typed without power", 0, 0x21, 0x22, 255);

@@ -45,6 +45,11 @@ public final class Promise03FactoryTest {
         Due.is("acts of wrong ones", acts, device.x.acts());
         device.isState("behind wrong ones", 0, 0, 1, 0);
         Due.is("the tape of a wrong one", 3, device.tapeLength());
+        for (int sequence : new int[] {0, 201}) {
+            new Sweep("factory(" + sequence + ")", () -> Device.running(5).type(1, 2, 3), x -> x.factory(sequence))
+                .isRefused(FlashBoot.BAD);
+        }
+        new Sweep("factory() of no tape", () -> Device.running(5), x -> x.factory(5)).isRefused(FlashBoot.BAD);
     }
 
     private static void edges() {
@@ -66,10 +71,17 @@ public final class Promise03FactoryTest {
         Device device = new Device().type(1, 2, 3);
         device.x.factory(1);
         Due.is("the tape behind factory", 0, device.tapeLength());
-        device = new Device().type(1, 2, 3);
-        device.x.crash(4, 0);
-        Due.is("torn factory", FlashBoot.OFF, device.x.factory(1));
-        Due.is("the tape behind a torn one", 0, device.tapeLength());
+        for (int n = 0; n < 19; n++) {
+            device = new Device().type(1, 2, 3);
+            device.x.crash(n, 0);
+            Due.is("factory torn behind " + n, FlashBoot.OFF, device.x.factory(1));
+            Due.is("the tape behind one torn behind " + n, 0, device.tapeLength());
+        }
+        device = new Device().type(Bytes.image(192, 2));
+        Due.is("factory(201) of a full tape", FlashBoot.BAD, device.x.factory(201));
+        Due.is("the full tape stays", FlashBoot.FULL, device.x.type(1, 1));
+        Due.is("factory(200) of a full tape", 1, device.x.factory(200));
+        Due.is("no tape is left", FlashBoot.BAD, device.x.factory(200));
     }
 
     private static void whatRanDoesNot() {

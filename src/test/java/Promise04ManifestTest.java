@@ -11,6 +11,7 @@ public final class Promise04ManifestTest {
         sameAgain();
         sameAgainBehindATearing();
         anotherOne();
+        refused();
         tape();
         withoutPower();
         Due.end();
@@ -170,11 +171,35 @@ public final class Promise04ManifestTest {
         Due.is("the block is there", 0, device.block(other, 0));
     }
 
+    private static void isRefused(String what, int answer, int... row) {
+        new Sweep(what, () -> Device.running(1).stage(Update.whole(2, NEXT)).type(row), FlashBoot::manifest)
+            .isRefused(answer);
+    }
+
+    private static void refused() {
+        Update update = Update.whole(200, NEXT);
+        int[] row = update.manifest();
+        isRefused("no manifest", FlashBoot.BAD);
+        isRefused("a manifest of 19 bytes", FlashBoot.BAD, Bytes.part(row, 0, 19));
+        isRefused("a manifest of 21 bytes", FlashBoot.BAD, Bytes.join(row, Bytes.of(255)));
+        isRefused("sequence 0", FlashBoot.BAD, Update.whole(0, NEXT).manifest());
+        isRefused("sequence 201", FlashBoot.BAD, Update.whole(201, NEXT).manifest());
+        isRefused("an old one", FlashBoot.OLD, Update.whole(1, NEXT).manifest());
+        isRefused("the same", 1, Update.whole(2, NEXT).manifest());
+        update.tagFault = 1;
+        isRefused("a wrong tag", FlashBoot.TAG, update.manifest());
+        update.tagFault = 0;
+        update.vendor++;
+        isRefused("another vendor", FlashBoot.TAG, update.manifest());
+    }
+
     private static void tape() {
-        Device device = Device.running(1);
-        device.x.crash(5, 0);
-        Due.is("torn", FlashBoot.OFF, device.manifest(Update.whole(2, NEXT)));
-        Due.is("the tape behind a torn one", 0, device.tapeLength());
+        for (int n = 0; n < 28; n++) {
+            Device device = Device.running(1);
+            device.x.crash(n, 0);
+            Due.is("torn behind " + n, FlashBoot.OFF, device.manifest(Update.whole(2, NEXT)));
+            Due.is("the tape behind one torn behind " + n, 0, device.tapeLength());
+        }
     }
 
     private static void withoutPower() {

@@ -1,6 +1,7 @@
 public final class Promise05BlockTest {
+    private static final int[] NEXT = Bytes.image(20, 2);
     private static final Update LONG = Update.whole(2, Bytes.image(190, 2));
-    private static final Update SHORT = Update.whole(2, Bytes.image(20, 2));
+    private static final Update SHORT = Update.whole(2, NEXT);
 
     public static void main(String[] args) {
         everyAct();
@@ -11,6 +12,9 @@ public final class Promise05BlockTest {
         tape();
         blockAgain();
         oldOnes();
+        shortestAndLongest();
+        otherBytesOverTornOnes();
+        refused();
         withoutPower();
         Due.end();
     }
@@ -60,7 +64,7 @@ public final class Promise05BlockTest {
     }
 
     private static void noSuchBlock() {
-        for (int length : new int[] {2, 15, 16, 17, 31, 32, 33, 191, 192}) {
+        for (int length : new int[] {1, 2, 15, 16, 17, 31, 32, 33, 191, 192}) {
             int[] payload = Bytes.image(length, 8);
             Update update = new Update(2, payload, Bytes.image(20, 2));
             Device device = Device.running(1);
@@ -102,11 +106,13 @@ public final class Promise05BlockTest {
         device.manifest(LONG);
         device.block(LONG, 4);
         Due.is("the tape behind a block", 0, device.tapeLength());
-        device = Device.running(1);
-        device.manifest(LONG);
-        device.x.crash(3, 0);
-        Due.is("a torn block", FlashBoot.OFF, device.block(LONG, 4));
-        Due.is("the tape behind a torn block", 0, device.tapeLength());
+        for (int n = 0; n < 17; n++) {
+            device = Device.running(1);
+            device.manifest(LONG);
+            device.x.crash(n, 0);
+            Due.is("torn behind " + n, FlashBoot.OFF, device.block(LONG, 4));
+            Due.is("the tape behind one torn behind " + n, 0, device.tapeLength());
+        }
     }
 
     private static void blockAgain() {
@@ -138,6 +144,67 @@ public final class Promise05BlockTest {
         Due.is("what runs is not less", 1, device.block(LONG, 1));
         Due.is("install of the old one", FlashBoot.OLD, device.x.install());
         Due.is("block of the old one that is there", 0, device.block(LONG, 1));
+    }
+
+    /** A payload of one byte has one block, and one of 192 has twelve of sixteen. */
+    private static void shortestAndLongest() {
+        Update least = new Update(2, Bytes.of(7), NEXT);
+        new Sweep("block(0) of one byte", () -> {
+            Device device = Device.running(1);
+            device.manifest(least);
+            return device.type(7);
+        }, x -> x.block(0)).isDue(1, new Acts().program(448, 7).program(672, 0));
+        Update most = new Update(2, Bytes.image(192, 3), NEXT);
+        new Sweep("block(11) of 192 bytes", () -> {
+            Device device = Device.running(1);
+            device.manifest(most);
+            return device.type(most.block(11));
+        }, x -> x.block(11)).isDue(1, new Acts().program(624, most.block(11)).program(683, 0));
+    }
+
+    /** The stage is not erased for a block: what a torn one left goes into the next one. */
+    private static void otherBytesOverTornOnes() {
+        int[] first = Bytes.image(16, 5);
+        int[] second = Bytes.image(16, 6);
+        new Sweep("block(0) over a torn one", () -> {
+            Device device = Device.running(1);
+            device.manifest(LONG);
+            device.x.crash(9, 0x3C);
+            Due.is("torn block on the way", FlashBoot.OFF, device.type(first).x.block(0));
+            device.x.boot();
+            return device.type(second);
+        }, x -> x.block(0)).isDue(1, new Acts().program(448, second).program(672, 0));
+
+        Device device = Device.running(1);
+        device.manifest(SHORT);
+        device.x.crash(16, 255);
+        Due.is("torn at the map", FlashBoot.OFF, device.type(Bytes.image(16, 77)).x.block(0));
+        device.x.boot();
+        Due.is("the right block over a wrong one", 1, device.block(SHORT, 0));
+        for (int i = 0; i < 16; i++) {
+            device.areBytes("of both", 448 + i, Bytes.image(16, 77)[i] & SHORT.payload[i]);
+        }
+        device.block(SHORT, 1);
+        Due.is("install of both at once", FlashBoot.WRONG, device.x.install());
+        Due.is("the same manifest erases nothing", 1, device.manifest(SHORT));
+        Due.is("install still", FlashBoot.WRONG, device.x.install());
+    }
+
+    private static Device partly(int... row) {
+        Device device = Device.running(1);
+        device.manifest(SHORT);
+        device.block(SHORT, 0);
+        return device.type(row);
+    }
+
+    private static void refused() {
+        int[] row = SHORT.block(0);
+        new Sweep("no manifest", () -> Device.running(1).type(row), x -> x.block(0)).isRefused(FlashBoot.BAD);
+        new Sweep("block(-1)", () -> partly(row), x -> x.block(-1)).isRefused(FlashBoot.BAD);
+        new Sweep("block(2)", () -> partly(row), x -> x.block(2)).isRefused(FlashBoot.BAD);
+        new Sweep("no tape", () -> partly(), x -> x.block(0)).isRefused(FlashBoot.BAD);
+        new Sweep("too long for the last", () -> partly(row), x -> x.block(1)).isRefused(FlashBoot.BAD);
+        new Sweep("it was there", () -> partly(Bytes.image(16, 9)), x -> x.block(0)).isRefused(0);
     }
 
     private static void withoutPower() {

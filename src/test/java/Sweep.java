@@ -34,6 +34,15 @@ final class Sweep {
         }
     }
 
+    /** A call that does no act, a crash set or not, and leaves what runs. */
+    void isRefused(int answer) {
+        isDue(answer, new Acts());
+        FlashBoot x = scene.get().x;
+        int running = x.running();
+        call.applyAsInt(x);
+        Due.is(name + ": running()", running, x.running());
+    }
+
     private void whole(int answer, Acts acts, int[] before, int crash) {
         String what = name + " with crash(" + crash + ")";
         int[] want = before.clone();
