@@ -8,11 +8,17 @@ public final class Promise06InstallTest {
         noManifest();
         old();
         lacks();
+        tornBlock();
         wrongDigests();
         base();
+        noughtIsNoBase();
         patches();
         wrongPatches();
+        endOfTheBase();
+        endOfTheStage();
         lengths();
+        refused();
+        tornAtTheLastAct();
         orderOfAnswers();
         whatItLeaves();
         withoutPower();
@@ -90,6 +96,20 @@ public final class Promise06InstallTest {
         }
     }
 
+    /** A block is there when its byte of the map is 0, and not before. */
+    private static void tornBlock() {
+        Update update = Update.whole(2, NEXT);
+        for (int mask : new int[] {0, 1, 128, 255}) {
+            Device device = Device.running(1);
+            device.manifest(update);
+            device.block(update, 1);
+            device.x.crash(16, mask);
+            Due.is("torn at the map", FlashBoot.OFF, device.block(update, 0));
+            device.x.boot();
+            Due.is("the map torn with " + mask, mask == 0 ? 1 : FlashBoot.LACKS, device.x.install());
+        }
+    }
+
     private static void installs(String what, int want, Update update) {
         Device device = Device.running(1).stage(update);
         int acts = device.x.acts();
@@ -138,6 +158,20 @@ public final class Promise06InstallTest {
         Due.is("boot of the third", 0, device.x.boot());
     }
 
+    private static int installOn(int[] base, Update update) {
+        return Device.running(1, base).stage(update).x.install();
+    }
+
+    /** An image whose digest is 0 can't be told as a base, but it can run, and it can be installed. */
+    private static void noughtIsNoBase() {
+        int[] nought = TermsTest.NOUGHT;
+        Due.is("a base whose digest is 0", 0, Bytes.digest(nought));
+        Due.is("bytes of it", FlashBoot.WRONG, installOn(nought, new Update(2, Bytes.of(132, 0), nought).on(nought)));
+        Due.is("no bytes of it", 1, installOn(nought, Update.whole(2, NEXT).on(nought)));
+        Due.is("another base told", FlashBoot.WRONG, installOn(nought, Update.whole(2, NEXT).on(FIRST)));
+        Due.is("an image whose digest is 0", 1, installOn(FIRST, Update.whole(2, nought).on(FIRST)));
+    }
+
     private static void right(String what, int[] patch, int[]... parts) {
         int[] image = Bytes.join(parts);
         Device device = Device.running(1);
@@ -174,9 +208,92 @@ public final class Promise06InstallTest {
         wrongPatch("one behind the base", Bytes.of(128, 40), Bytes.of(255));
         wrongPatch("over the base's end", Bytes.of(129, 39), Bytes.of(FIRST[39], 255));
         wrongPatch("one more than the base", Bytes.of(128 + 40, 0), Bytes.join(FIRST, Bytes.of(255)));
-        wrongPatch("far behind the base", Bytes.of(255, 255), Bytes.image(128, 1));
+        wrongPatch("far behind the base", Bytes.of(255, 255), erased(128));
         wrongPatch("the slot's header as base", Bytes.of(128, 192), Bytes.of(40));
         installs("no base is told", FlashBoot.WRONG, new Update(2, Bytes.of(128, 0), Bytes.part(FIRST, 0, 1)));
+    }
+
+    /** The image is what stands in flash from there on, also where it is the base's no more. */
+    private static int ofWideBase(int length, int place) {
+        int[] wide = Bytes.image(192, 3);
+        int[] header = Bytes.join(Bytes.of(192, 1), Bytes.word(Bytes.digest(wide)), Bytes.of(255, 0, 0));
+        int[] image = Bytes.part(Bytes.join(wide, header, erased(182)), place, length);
+        return installOn(wide, new Update(2, Bytes.of(127 + length, place), image).on(wide));
+    }
+
+    private static int[] erased(int length) {
+        int[] row = new int[length];
+        java.util.Arrays.fill(row, 255);
+        return row;
+    }
+
+    private static void endOfTheBase() {
+        Due.is("the last byte of 192", 1, ofWideBase(1, 191));
+        Due.is("the byte behind 192", FlashBoot.WRONG, ofWideBase(1, 192));
+        Due.is("the last place", FlashBoot.WRONG, ofWideBase(1, 255));
+        Due.is("two bytes, one of them behind", FlashBoot.WRONG, ofWideBase(2, 191));
+        Due.is("the first 128", 1, ofWideBase(128, 0));
+        Due.is("the last 128", 1, ofWideBase(128, 64));
+        Due.is("128, one of them behind", FlashBoot.WRONG, ofWideBase(128, 65));
+        int[] one = Bytes.of(77);
+        Due.is("a base of one byte", 1, installOn(one, new Update(2, Bytes.of(128, 0), one).on(one)));
+        Due.is("behind it", FlashBoot.WRONG, installOn(one, new Update(2, Bytes.of(128, 1), Bytes.of(255)).on(one)));
+    }
+
+    /** Behind the 192nd byte of the stage stands the manifest, whose first byte is the vendor. */
+    private static void endOfTheStage() {
+        int[] parts = {1, 5, 6};
+        int[] image = {5, 6};
+        for (int i = 0; i < 94; i++) {
+            parts = Bytes.join(parts, Bytes.of(0, i));
+            image = Bytes.join(image, Bytes.of(i));
+        }
+        int[] vendor = Bytes.of(Device.VENDOR);
+        int[] place = Bytes.part(FIRST, Device.VENDOR, 1);
+        wrongPatch("a byte behind the stage", Bytes.join(parts, Bytes.of(0)), Bytes.join(image, vendor));
+        wrongPatch("a place behind the stage", Bytes.join(parts, Bytes.of(128)), Bytes.join(image, place));
+        int[] whole = Bytes.join(Bytes.part(parts, 3, 188), Bytes.of(2, 7, 8, 9));
+        right("a payload of 192", whole, Bytes.part(image, 2, 94), Bytes.of(7, 8, 9));
+        for (int b : new int[] {0, 127, 128, 255}) {
+            wrongPatch("a payload of one byte, " + b, Bytes.of(b), erased(b % 128 + 1));
+        }
+    }
+
+    private static void isRefused(String what, int answer, java.util.function.Supplier<Device> scene) {
+        new Sweep(what, scene, FlashBoot::install).isRefused(answer);
+    }
+
+    private static void refused() {
+        Update update = Update.whole(2, NEXT);
+        isRefused("no manifest", FlashBoot.NONE, () -> Device.running(1));
+        isRefused("old", FlashBoot.OLD, () -> {
+            Device device = Device.running(1).stage(update);
+            device.type(FIRST).x.factory(2);
+            device.x.boot();
+            return device;
+        });
+        isRefused("a block is not there", FlashBoot.LACKS, () -> {
+            Device device = Device.running(1);
+            device.manifest(update);
+            device.block(update, 1);
+            return device;
+        });
+        Update wrong = Update.whole(2, NEXT);
+        wrong.imageDigest++;
+        isRefused("wrong", FlashBoot.WRONG, () -> Device.running(1).stage(wrong));
+    }
+
+    /** The image is whole before its manifest goes: it runs, and it is not taken twice. */
+    private static void tornAtTheLastAct() {
+        for (int mask : new int[] {0, 1, 31, 32, 255}) {
+            Device device = Device.running(1).stage(Update.whole(2, NEXT));
+            device.x.crash(7 + 20 + 8, mask);
+            Due.is("torn install", FlashBoot.OFF, device.x.install());
+            device.isState("torn install", FlashBoot.NONE, 0, 1, 1);
+            Due.is("boot", 1, device.x.boot());
+            int want = mask % 32 == 0 ? FlashBoot.OLD : FlashBoot.NONE;
+            Due.is("install again, page 20 torn with " + mask, want, device.x.install());
+        }
     }
 
     private static void lengths() {

@@ -13,6 +13,8 @@ public final class Promise07BootTest {
         twoTrials();
         twoConfirmed();
         sameSequence();
+        sequencesAbove127();
+        trialBelowTheCounter();
         noneCanRun();
         powerComes();
         everyTornUpdateBoots();
@@ -32,6 +34,8 @@ public final class Promise07BootTest {
                 return device;
             }, FlashBoot::boot).isDue(1, new Acts().program(422, left[booted] & left[booted] - 1));
         }
+        new Sweep("boot() of a new one", Device::new, FlashBoot::boot).isRefused(NONE);
+        new Sweep("boot() when none can run", Promise07BootTest::noTrialLeft, FlashBoot::boot).isDue(NONE, new Acts());
         new Sweep("boot() of a confirmed one", () -> Device.running(1), FlashBoot::boot).isDue(0, new Acts());
     }
 
@@ -141,11 +145,38 @@ public final class Promise07BootTest {
         Due.is("the trial of two with the same", 1, trial.x.boot());
     }
 
-    private static void noneCanRun() {
+    /** The greater sequence is that of the whole byte. */
+    private static void sequencesAbove127() {
+        Device device = bothConfirmed(200);
+        for (int sequence : new int[] {1, 127, 128, 199, 200}) {
+            device.type(FIRST).x.factory(sequence);
+            Due.is("200 or " + sequence, sequence < 200 ? 1 : 0, device.x.boot());
+        }
+    }
+
+    /** It has trials left and is whole, but an image that was confirmed since is newer. */
+    private static void trialBelowTheCounter() {
+        Device device = twoOnTrial();
+        Due.is("the greater one", 0, device.x.boot());
+        Due.is("confirm", 1, device.x.confirm());
+        device.isState("confirmed", 0, 3, 1, 0);
+        device.areBytes("trials that are left", 422, 14);
+        for (int i = 0; i < 5; i++) {
+            Due.is("the confirmed one", 0, device.x.boot());
+        }
+        device.areBytes("trials that are left still", 422, 14);
+    }
+
+    private static Device noTrialLeft() {
         Device device = twoOnTrial();
         for (int i = 0; i < 7; i++) {
             device.x.boot();
         }
+        return device;
+    }
+
+    private static void noneCanRun() {
+        Device device = noTrialLeft();
         int acts = device.x.acts();
         Due.is("boot when none is confirmed and no trial is left", NONE, device.x.boot());
         device.isState("good ones that can't run", NONE, 0, 1, 1);

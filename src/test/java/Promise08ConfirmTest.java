@@ -11,6 +11,7 @@ public final class Promise08ConfirmTest {
         greatestSequence();
         tornBeforeTheCounter();
         noActMore();
+        refused();
         withoutPower();
         Due.end();
     }
@@ -110,6 +111,21 @@ public final class Promise08ConfirmTest {
         device.x.crash(1 + 2, 0);
         Due.is("confirm", 1, device.x.confirm());
         Due.is("the crash is met by the next act", FlashBoot.OFF, device.type(1).x.factory(1));
+    }
+
+    private static void refused() {
+        new Sweep("confirm() of a new one", Device::new, FlashBoot::confirm).isRefused(FlashBoot.NONE);
+        new Sweep("confirm() behind factory", () -> {
+            Device device = Device.running(1).type(1);
+            device.x.factory(1);
+            return device;
+        }, FlashBoot::confirm).isRefused(FlashBoot.NONE);
+        new Sweep("confirm() of the factory's", () -> Device.running(200), FlashBoot::confirm).isRefused(0);
+        new Sweep("confirm() again", () -> {
+            Device device = onTrial(5);
+            device.x.confirm();
+            return device;
+        }, FlashBoot::confirm).isRefused(0);
     }
 
     private static void withoutPower() {
